@@ -1,0 +1,921 @@
+import java.util.ArrayList;
+import java.util.Collections;
+import java.util.Comparator;
+import java.util.HashMap;
+import java.util.List;
+import java.util.Map;
+import java.util.NoSuchElementException;
+import java.util.Random;
+import java.util.TreeMap;
+import java.util.TreeSet;
+
+/**
+ * Long runs of calls, good and wrong ones mixed, each answered by the class and by a slow model
+ * that works straight from the document's words: everything is made anew for each question.
+ */
+public final class MajorityIndexAgainstModel {
+  private static final long THROWS = Long.MIN_VALUE;
+  private static final int NONE = -1;
+  private static final int NO_VALUE = -40000;
+  private static int wrong = 0;
+
+  public static void main(String[] args) {
+    for (int run = 0; run < 500 && wrong < 20; run++) {
+      oneRun(run);
+    }
+    System.out.println(wrong == 0 ? "the class and the model agree" : wrong + " answers are not as due");
+    if (wrong != 0) {
+      System.exit(1);
+    }
+  }
+
+  private static void oneRun(int run) {
+    Random random = new Random(1000 + run);
+    Caller caller = new Caller(random, 1 + random.nextInt(run % 3 == 0 ? 40 : 8));
+    MajorityIndex real = new MajorityIndex();
+    Model model = new Model();
+    int feeds = random.nextInt(45);
+    for (int call = 0; call < 500 && wrong < 20; call++) {
+      int[] a = call < feeds ? caller.feed() : caller.any(model.row.size());
+      long want = modelAnswer(model, a);
+      long got = realAnswer(real, a);
+      if (want != got) {
+        wrong++;
+        System.out.println("run " + run + ", call " + call + ": " + NAMES[a[0]] + java.util.Arrays.toString(a)
+            + " answered " + got + ", due is " + want + " with K " + model.k + " and " + model.row);
+      }
+    }
+    sameState(run, real, model);
+  }
+
+  private static void sameState(int run, MajorityIndex real, Model model) {
+    for (int i = 0; i < model.row.size(); i++) {
+      if (real.at(i) != model.row.get(i)) {
+        wrong++;
+        System.out.println("run " + run + ": at the end place " + i + " has " + real.at(i));
+      }
+    }
+  }
+
+  private static final String[] NAMES = {"feed", "end", "slots", "set", "fill", "turn", "swap", "insert", "remove",
+    "at", "count", "place", "values", "node", "vote", "loss", "cancelled", "above", "holds", "parts", "part",
+    "summary", "candidate", "lost", "surely", "heavy", "heavyAt", "failed", "least", "majority", "margin", "both",
+    "bothAt", "longest", "reach", "parted", "cut", "majorities", "windows", "needs", "spares", "would", "swings",
+    "told"};
+
+  /** Makes calls: mostly such as the document answers, every so often one with something wrong. */
+  private static final class Caller {
+    final Random random;
+    final int unlike;
+
+    Caller(Random random, int unlike) {
+      this.random = random;
+      this.unlike = unlike;
+    }
+
+    int value() {
+      int x = random.nextInt(60);
+      if (x == 0) {
+        return -32768;
+      }
+      if (x == 1) {
+        return 32767;
+      }
+      return (Math.min(random.nextInt(unlike), random.nextInt(unlike)) - 2) * 7;
+    }
+
+    int maybeWrongValue() {
+      int[] odd = {32768, -32769, -40000, Integer.MAX_VALUE, Integer.MIN_VALUE, 65536};
+      return random.nextInt(25) == 0 ? odd[random.nextInt(odd.length)] : value();
+    }
+
+    int[] feed() {
+      return new int[] {0, value() << 16 | value() & 0xffff, value() << 16 | value() & 0xffff};
+    }
+
+    int wild() {
+      int[] odd = {-1, -2, Integer.MIN_VALUE, Integer.MAX_VALUE, 160, 161, 1000};
+      return odd[random.nextInt(odd.length)];
+    }
+
+    int place(int n) {
+      int x = random.nextInt(25);
+      return x == 0 ? wild() : x == 1 ? n : n == 0 ? 0 : random.nextInt(n);
+    }
+
+    int small(int below) {
+      return random.nextInt(20) == 0 ? wild() : random.nextInt(below);
+    }
+
+    int[] range(int n) {
+      int x = random.nextInt(30);
+      if (x == 0) {
+        return new int[] {wild(), place(n)};
+      }
+      if (x == 1) {
+        return new int[] {place(n), random.nextBoolean() ? wild() : n + 1};
+      }
+      if (x == 2) {
+        int m = place(n);
+        return new int[] {m, m};
+      }
+      if (x < 8 && n > 0) {
+        return nodeLike(n);
+      }
+      int a = random.nextInt(n + 1);
+      int b = x < 16 ? Math.min(n, a + 1 + random.nextInt(20)) : random.nextInt(n + 1);
+      return new int[] {Math.min(a, b), Math.max(a, b)};
+    }
+
+    int[] nodeLike(int n) {
+      int l = 0;
+      int r = n;
+      int steps = random.nextInt(10);
+      for (int i = 0; i < steps && r - l > 1; i++) {
+        int m = (l + r) / 2;
+        if (random.nextBoolean()) {
+          l = m;
+        } else {
+          r = m;
+        }
+      }
+      return new int[] {l, r};
+    }
+
+    int[] share() {
+      int x = random.nextInt(24);
+      int[][] odd = {{0, 3}, {3, 2}, {-1, 2}, {1, 1000}, {1000, 1000}, {Integer.MIN_VALUE, 5}, {5, Integer.MAX_VALUE},
+        {0, 0}};
+      if (x == 0) {
+        return odd[random.nextInt(odd.length)];
+      }
+      if (x < 8) {
+        return new int[] {1, 1 + random.nextInt(8)};
+      }
+      if (x < 16) {
+        int q = 1 + random.nextInt(12);
+        return new int[] {1 + random.nextInt(q), q};
+      }
+      if (x == 16) {
+        return new int[] {999, 999};
+      }
+      int q = 1 + random.nextInt(999);
+      return new int[] {1 + random.nextInt(q), q};
+    }
+
+    int[] any(int n) {
+      int op = random.nextInt(NAMES.length + 14);
+      if (op >= NAMES.length) {
+        // Reads of small shape get a second chance, so that a long row is not cut down too soon.
+        op = 13 + random.nextInt(30);
+      }
+      if (op == 1 && random.nextInt(4) != 0 && n > 0) {
+        op = 0;
+      }
+      int[] r = range(n);
+      int[] r2 = range(n);
+      int[] s = share();
+      switch (op) {
+        case 0: return feed();
+        case 1: return new int[] {1, random.nextInt(4) == 0 ? small(n + 3) : n - random.nextInt(5)};
+        case 2: return new int[] {2, small(8)};
+        case 3: return new int[] {3, place(n), maybeWrongValue()};
+        case 4: return new int[] {4, r[0], r[1], maybeWrongValue()};
+        case 5: return new int[] {5, r[0], r[1]};
+        case 6: return new int[] {6, place(n), place(n)};
+        case 7: return new int[] {7, random.nextInt(5) == 0 ? n : place(n), maybeWrongValue()};
+        case 8: return new int[] {8, place(n)};
+        case 9: return new int[] {9, place(n)};
+        case 10: return new int[] {10, maybeWrongValue(), r[0], r[1]};
+        case 11: return new int[] {11, maybeWrongValue(), small(12)};
+        case 12: return new int[] {12};
+        case 13: return new int[] {13, r[0], r[1]};
+        case 14: return nodeCall(n, r);
+        case 15: return new int[] {15, r[0], r[1]};
+        case 16: return new int[] {16, r[0], r[1]};
+        case 17: return new int[] {17, place(n), random.nextInt(6) - 1 + random.nextInt(5), small(4)};
+        case 18: return new int[] {18, place(n)};
+        case 19: return new int[] {19, r[0], r[1]};
+        case 20: return new int[] {20, r[0], r[1], small(6), small(3)};
+        case 21: return new int[] {21, r[0], r[1], small(4)};
+        case 22: return new int[] {22, r[0], r[1], small(7), small(4)};
+        case 23: return new int[] {23, maybeWrongValue(), r[0], r[1]};
+        case 24: return new int[] {24, r[0], r[1]};
+        case 25: return new int[] {25, r[0], r[1], s[0], s[1]};
+        case 26: return new int[] {26, r[0], r[1], s[0], s[1], small(4), small(3)};
+        case 27: return new int[] {27, r[0], r[1], s[0], s[1]};
+        case 28: return new int[] {28, r[0], r[1], s[0], s[1]};
+        case 29: return new int[] {29, r[0], r[1]};
+        case 30: return new int[] {30, maybeWrongValue(), r[0], r[1]};
+        case 31: return new int[] {31, r[0], r[1], r2[0], r2[1], s[0], s[1]};
+        case 32: return new int[] {32, r[0], r[1], r2[0], r2[1], s[0], s[1], small(3)};
+        case 33: return new int[] {33, maybeWrongValue(), s[0], s[1], small(3)};
+        case 34: return new int[] {34, place(n)};
+        case 35: return new int[] {35, r[0], r[1]};
+        case 36: return new int[] {36, r[0], r[1]};
+        case 37: return new int[] {37};
+        case 38: return new int[] {38, random.nextInt(2) == 0 ? small(9) : place(n), s[0], s[1], small(4)};
+        case 39: return new int[] {39, maybeWrongValue(), r[0], r[1], s[0], s[1]};
+        case 40: return new int[] {40, maybeWrongValue(), r[0], r[1], s[0], s[1]};
+        case 41: return new int[] {41, place(n), maybeWrongValue(), r[0], r[1]};
+        case 42: return new int[] {42, r[0], r[1], maybeWrongValue(), small(3)};
+        default: return new int[] {43, small(8)};
+      }
+    }
+
+    int[] nodeCall(int n, int[] r) {
+      int[] at = n > 0 && random.nextInt(3) != 0 ? nodeLike(n) : r;
+      return new int[] {14, at[0], at[1], small(7), small(3)};
+    }
+  }
+
+  private static long realAnswer(MajorityIndex x, int[] a) {
+    try {
+      return a[0] < 24 ? realFirst(x, a) : realSecond(x, a);
+    } catch (NoSuchElementException e) {
+      return THROWS;
+    } catch (RuntimeException e) {
+      System.out.println(NAMES[a[0]] + java.util.Arrays.toString(a) + " throws " + e);
+      return THROWS + 1;
+    }
+  }
+
+  private static long realFirst(MajorityIndex x, int[] a) {
+    switch (a[0]) {
+      case 0: return x.feed(a[1], a[2]);
+      case 1: return x.end(a[1]);
+      case 2: return x.slots(a[1]);
+      case 3: return x.set(a[1], a[2]);
+      case 4: return x.fill(a[1], a[2], a[3]);
+      case 5: return x.turn(a[1], a[2]);
+      case 6: return x.swap(a[1], a[2]);
+      case 7: return x.insert(a[1], a[2]);
+      case 8: return x.remove(a[1]);
+      case 9: return x.at(a[1]);
+      case 10: return x.count(a[1], a[2], a[3]);
+      case 11: return x.place(a[1], a[2]);
+      case 12: return x.values();
+      case 13: return x.node(a[1], a[2]);
+      case 14: return x.vote(a[1], a[2], a[3], a[4]);
+      case 15: return x.loss(a[1], a[2]);
+      case 16: return x.cancelled(a[1], a[2]);
+      case 17: return x.above(a[1], a[2], a[3]);
+      case 18: return x.holds(a[1]);
+      case 19: return x.parts(a[1], a[2]);
+      case 20: return x.part(a[1], a[2], a[3], a[4]);
+      case 21: return x.summary(a[1], a[2], a[3]);
+      case 22: return x.candidate(a[1], a[2], a[3], a[4]);
+      default: return x.lost(a[1], a[2], a[3]);
+    }
+  }
+
+  private static long realSecond(MajorityIndex x, int[] a) {
+    switch (a[0]) {
+      case 24: return x.surely(a[1], a[2]);
+      case 25: return x.heavy(a[1], a[2], a[3], a[4]);
+      case 26: return x.heavyAt(a[1], a[2], a[3], a[4], a[5], a[6]);
+      case 27: return x.failed(a[1], a[2], a[3], a[4]);
+      case 28: return x.least(a[1], a[2], a[3], a[4]);
+      case 29: return x.majority(a[1], a[2]);
+      case 30: return x.margin(a[1], a[2], a[3]);
+      case 31: return x.both(a[1], a[2], a[3], a[4], a[5], a[6]);
+      case 32: return x.bothAt(a[1], a[2], a[3], a[4], a[5], a[6], a[7]);
+      case 33: return x.longest(a[1], a[2], a[3], a[4]);
+      case 34: return x.reach(a[1]);
+      case 35: return x.parted(a[1], a[2]);
+      case 36: return x.cut(a[1], a[2]);
+      case 37: return x.majorities();
+      case 38: return x.windows(a[1], a[2], a[3], a[4]);
+      case 39: return x.needs(a[1], a[2], a[3], a[4], a[5]);
+      case 40: return x.spares(a[1], a[2], a[3], a[4], a[5]);
+      case 41: return x.would(a[1], a[2], a[3], a[4]);
+      case 42: return x.swings(a[1], a[2], a[3], a[4]);
+      default: return x.told(a[1]);
+    }
+  }
+
+  private static long modelAnswer(Model m, int[] a) {
+    switch (a[0]) {
+      case 0: return m.feed(a[1], a[2]);
+      case 1: return m.end(a[1]);
+      case 2: return m.slots(a[1]);
+      case 3: return m.isPlace(a[1]) && isValue(a[2]) ? m.filled(a[1], a[1] + 1, a[2]) : NONE;
+      case 4: return m.isRange(a[1], a[2]) && isValue(a[3]) ? m.filled(a[1], a[2], a[3]) : NONE;
+      case 5: return m.isRange(a[1], a[2]) ? m.turned(a[1], a[2]) : NONE;
+      case 6: return m.isPlace(a[1]) && m.isPlace(a[2]) ? m.swapped(a[1], a[2]) : NONE;
+      case 7: return m.insert(a[1], a[2]);
+      case 8: return m.isPlace(a[1]) ? m.row.remove(a[1]) : NO_VALUE;
+      case 9: return m.isPlace(a[1]) ? m.row.get(a[1]) : THROWS;
+      case 10: return isValue(a[1]) && m.isRange(a[2], a[3]) ? m.often(a[1], a[2], a[3]) : NONE;
+      case 11: return m.kth(a[1], a[2]);
+      case 12: return new TreeSet<>(m.row).size();
+      case 13: return m.nodeAnswer(a[1], a[2], 0);
+      case 14: return m.vote(a[1], a[2], a[3], a[4]);
+      case 15: return m.nodeAnswer(a[1], a[2], 1);
+      case 16: return m.nodeAnswer(a[1], a[2], 2);
+      case 17: return m.above(a[1], a[2], a[3]);
+      case 18: return m.holds(a[1]);
+      case 19: return m.isRange(a[1], a[2]) ? m.partsOf(a[1], a[2]).size() : NONE;
+      case 20: return m.part(a[1], a[2], a[3], a[4]);
+      case 21: return m.summary(a[1], a[2], a[3]);
+      case 22: return m.candidate(a[1], a[2], a[3], a[4]);
+      case 23: return m.lost(a[1], a[2], a[3]);
+      default: return modelSecond(m, a);
+    }
+  }
+
+  private static long modelSecond(Model m, int[] a) {
+    switch (a[0]) {
+      case 24: return m.surely(a[1], a[2]);
+      case 25: return m.heavy(a[1], a[2], a[3], a[4]);
+      case 26: return m.heavyAt(a[1], a[2], a[3], a[4], a[5], a[6]);
+      case 27: return m.failed(a[1], a[2], a[3], a[4]);
+      case 28: return m.least(a[1], a[2], a[3], a[4]);
+      case 29: return m.isRange(a[1], a[2]) ? m.majority(a[1], a[2]) : NO_VALUE;
+      case 30: return isValue(a[1]) && m.isRange(a[2], a[3])
+          ? 2 * m.often(a[1], a[2], a[3]) - (a[3] - a[2]) : NO_VALUE;
+      case 31: return m.both(a[1], a[2], a[3], a[4], a[5], a[6]);
+      case 32: return m.bothAt(a);
+      case 33: return m.longest(a[1], a[2], a[3], a[4]);
+      case 34: return m.reach(a[1]);
+      case 35: return m.isRange(a[1], a[2]) ? m.parted(a[1], a[2]) : NONE;
+      case 36: return m.isRange(a[1], a[2]) ? m.cut(a[1], a[2]) : NONE;
+      case 37: return m.majorities();
+      case 38: return m.windows(a[1], a[2], a[3], a[4]);
+      case 39: return m.needs(a);
+      case 40: return m.spares(a);
+      case 41: return m.would(a[1], a[2], a[3], a[4]);
+      case 42: return m.swings(a[1], a[2], a[3], a[4]);
+      default: return m.told(a[1]);
+    }
+  }
+
+  private static boolean isValue(int v) {
+    return v == (short) v;
+  }
+
+  private static boolean isShare(int p, int q) {
+    return 1 <= p && p <= 999 && p <= q && q <= 999;
+  }
+
+  /** A summary: values with numbers, and a loss; by is what the last cancelling took. */
+  private static final class Sum {
+    TreeMap<Integer, Integer> votes = new TreeMap<>();
+    int loss;
+    int by;
+
+    List<int[]> told() {
+      List<int[]> list = new ArrayList<>();
+      for (Map.Entry<Integer, Integer> e : votes.entrySet()) {
+        list.add(new int[] {e.getKey(), e.getValue()});
+      }
+      list.sort(Comparator.comparingInt((int[] v) -> -v[1]).thenComparingInt(v -> v[0]));
+      return list;
+    }
+
+    boolean like(Sum o) {
+      return votes.equals(o.votes) && loss == o.loss;
+    }
+
+    static Sum together(Sum a, Sum b, int k) {
+      Sum s = new Sum();
+      s.votes.putAll(a.votes);
+      b.votes.forEach((v, c) -> s.votes.merge(v, c, Integer::sum));
+      s.loss = a.loss + b.loss;
+      if (s.votes.size() > k) {
+        s.by = s.told().get(k)[1];
+        s.loss += s.by;
+        TreeMap<Integer, Integer> less = new TreeMap<>();
+        s.votes.forEach((v, c) -> {
+          if (c > s.by) {
+            less.put(v, c - s.by);
+          }
+        });
+        s.votes = less;
+      }
+      return s;
+    }
+  }
+
+  private static final class Model {
+    final List<Integer> row = new ArrayList<>();
+    int k = 2;
+
+    boolean isPlace(int p) {
+      return p >= 0 && p < row.size();
+    }
+
+    boolean isRange(int l, int r) {
+      return 0 <= l && l < r && r <= row.size();
+    }
+
+    int feed(int a, int b) {
+      if (row.size() > 156) {
+        return NONE;
+      }
+      Collections.addAll(row, (int) (short) (a >>> 16), (int) (short) a, (int) (short) (b >>> 16), (int) (short) b);
+      return row.size();
+    }
+
+    int end(int n) {
+      if (n < 0 || n > row.size()) {
+        return NONE;
+      }
+      row.subList(n, row.size()).clear();
+      return n;
+    }
+
+    int slots(int now) {
+      if (now < 1 || now > 6) {
+        return NONE;
+      }
+      int was = k;
+      k = now;
+      return was;
+    }
+
+    int insert(int place, int v) {
+      if (place < 0 || place > row.size() || !isValue(v) || row.size() == 160) {
+        return NONE;
+      }
+      row.add(place, v);
+      return row.size();
+    }
+
+    Sum nodeSum(int l, int r, int slots) {
+      if (r - l == 1) {
+        Sum s = new Sum();
+        s.votes.put(row.get(l), 1);
+        return s;
+      }
+      int m = (l + r) / 2;
+      return Sum.together(nodeSum(l, m, slots), nodeSum(m, r, slots), slots);
+    }
+
+    void nodesUnder(int l, int r, List<int[]> into) {
+      into.add(new int[] {l, r});
+      if (r - l > 1) {
+        nodesUnder(l, (l + r) / 2, into);
+        nodesUnder((l + r) / 2, r, into);
+      }
+    }
+
+    List<int[]> nodes() {
+      List<int[]> all = new ArrayList<>();
+      if (!row.isEmpty()) {
+        nodesUnder(0, row.size(), all);
+      }
+      return all;
+    }
+
+    boolean isNode(int l, int r) {
+      return nodes().stream().anyMatch(x -> x[0] == l && x[1] == r);
+    }
+
+    Map<Integer, Sum> snapshot() {
+      Map<Integer, Sum> all = new HashMap<>();
+      for (int[] x : nodes()) {
+        all.put(x[0] * 1000 + x[1], nodeSum(x[0], x[1], k));
+      }
+      return all;
+    }
+
+    int others(Map<Integer, Sum> before) {
+      int many = 0;
+      for (Map.Entry<Integer, Sum> e : snapshot().entrySet()) {
+        many += e.getValue().like(before.get(e.getKey())) ? 0 : 1;
+      }
+      return many;
+    }
+
+    int filled(int l, int r, int v) {
+      Map<Integer, Sum> before = snapshot();
+      Collections.fill(row.subList(l, r), v);
+      return others(before);
+    }
+
+    int turned(int l, int r) {
+      Map<Integer, Sum> before = snapshot();
+      Collections.reverse(row.subList(l, r));
+      return others(before);
+    }
+
+    int swapped(int i, int j) {
+      Map<Integer, Sum> before = snapshot();
+      Collections.swap(row, i, j);
+      return others(before);
+    }
+
+    int often(int v, int l, int r) {
+      return Collections.frequency(row.subList(l, r), v);
+    }
+
+    int kth(int v, int index) {
+      List<Integer> where = new ArrayList<>();
+      for (int i = 0; i < row.size(); i++) {
+        if (row.get(i) == v) {
+          where.add(i);
+        }
+      }
+      return index >= 0 && index < where.size() ? where.get(index) : NONE;
+    }
+
+    int nodeAnswer(int l, int r, int what) {
+      if (!isRange(l, r)) {
+        return NONE;
+      }
+      if (!isNode(l, r)) {
+        return -2;
+      }
+      Sum s = nodeSum(l, r, k);
+      return what == 0 ? s.votes.size() : what == 1 ? s.loss : s.by;
+    }
+
+    long vote(int l, int r, int i, int what) {
+      if (!isRange(l, r) || !isNode(l, r) || what < 0 || what > 1) {
+        return THROWS;
+      }
+      List<int[]> told = nodeSum(l, r, k).told();
+      return i < 0 || i >= told.size() ? THROWS : told.get(i)[what];
+    }
+
+    List<int[]> path(int place) {
+      List<int[]> path = new ArrayList<>();
+      for (int[] x : nodes()) {
+        if (x[0] <= place && place < x[1]) {
+          path.add(x);
+        }
+      }
+      path.sort(Comparator.comparingInt(x -> x[0] - x[1]));
+      return path;
+    }
+
+    int numberAt(int[] node, int place) {
+      return nodeSum(node[0], node[1], k).votes.getOrDefault(row.get(place), 0);
+    }
+
+    int above(int place, int i, int what) {
+      if (!isPlace(place)) {
+        return NONE;
+      }
+      List<int[]> path = path(place);
+      if (i == NONE) {
+        return path.size();
+      }
+      if (i < 0 || i >= path.size() || what < 0 || what > 2) {
+        return NONE;
+      }
+      return what < 2 ? path.get(i)[what] : numberAt(path.get(i), place);
+    }
+
+    int holds(int place) {
+      if (!isPlace(place)) {
+        return NONE;
+      }
+      List<int[]> path = path(place);
+      Collections.reverse(path);
+      int many = 0;
+      while (many < path.size() && numberAt(path.get(many), place) > 0) {
+        many++;
+      }
+      return many;
+    }
+
+    /** Fewest nodes, found as a shortest way over all nodes from l to r. */
+    List<int[]> partsOf(int l, int r) {
+      List<int[]> all = nodes();
+      Map<Integer, List<int[]>> best = new HashMap<>();
+      best.put(l, new ArrayList<>());
+      for (int i = l; i < r; i++) {
+        for (int[] x : all) {
+          if (x[0] == i && x[1] <= r) {
+            List<int[]> way = new ArrayList<>(best.get(i));
+            way.add(x);
+            if (!best.containsKey(x[1]) || best.get(x[1]).size() > way.size()) {
+              best.put(x[1], way);
+            }
+          }
+        }
+      }
+      return best.get(r);
+    }
+
+    int part(int l, int r, int i, int what) {
+      if (!isRange(l, r) || what < 0 || what > 1) {
+        return NONE;
+      }
+      List<int[]> parts = partsOf(l, r);
+      return i < 0 || i >= parts.size() ? NONE : parts.get(i)[what];
+    }
+
+    Sum rangeSum(int l, int r, int slots) {
+      Sum s = null;
+      for (int[] x : partsOf(l, r)) {
+        Sum next = nodeSum(x[0], x[1], slots);
+        s = s == null ? next : Sum.together(s, next, slots);
+      }
+      return s;
+    }
+
+    static int numbers(Sum s) {
+      return s.votes.values().stream().mapToInt(c -> c).sum();
+    }
+
+    int summary(int l, int r, int what) {
+      if (!isRange(l, r) || what < 0 || what > 2) {
+        return NONE;
+      }
+      Sum s = rangeSum(l, r, k);
+      return what == 0 ? s.votes.size() : what == 1 ? numbers(s) : s.loss;
+    }
+
+    long candidate(int l, int r, int i, int what) {
+      if (!isRange(l, r) || what < 0 || what > 2) {
+        return THROWS;
+      }
+      List<int[]> told = rangeSum(l, r, k).told();
+      if (i < 0 || i >= told.size()) {
+        return THROWS;
+      }
+      return what < 2 ? told.get(i)[what] : often(told.get(i)[0], l, r);
+    }
+
+    int lost(int v, int l, int r) {
+      if (!isRange(l, r) || !isValue(v)) {
+        return NONE;
+      }
+      return often(v, l, r) - rangeSum(l, r, k).votes.getOrDefault(v, 0);
+    }
+
+    int surely(int l, int r) {
+      if (!isRange(l, r)) {
+        return NO_VALUE;
+      }
+      Sum s = rangeSum(l, r, k);
+      List<int[]> told = s.told();
+      if (told.isEmpty() || told.get(0)[1] <= s.loss) {
+        return NO_VALUE;
+      }
+      return told.size() > 1 && told.get(0)[1] <= told.get(1)[1] + s.loss ? NO_VALUE : told.get(0)[0];
+    }
+
+    boolean enough(int p, int q) {
+      return p * (k + 1) >= q;
+    }
+
+    /** All heavy ones of a list of values, counted outright. */
+    static List<int[]> heavyOf(List<Integer> some, int p, int q) {
+      List<int[]> list = new ArrayList<>();
+      for (int v : new TreeSet<>(some)) {
+        int c = Collections.frequency(some, v);
+        if (c * q > p * some.size()) {
+          list.add(new int[] {v, c});
+        }
+      }
+      list.sort(Comparator.comparingInt((int[] x) -> -x[1]).thenComparingInt(x -> x[0]));
+      return list;
+    }
+
+    int heavy(int l, int r, int p, int q) {
+      if (!isRange(l, r) || !isShare(p, q)) {
+        return NONE;
+      }
+      return enough(p, q) ? heavyOf(row.subList(l, r), p, q).size() : -2;
+    }
+
+    long heavyAt(int l, int r, int p, int q, int i, int what) {
+      if (heavy(l, r, p, q) <= i || i < 0 || what < 0 || what > 1) {
+        return THROWS;
+      }
+      return heavyOf(row.subList(l, r), p, q).get(i)[what];
+    }
+
+    int failed(int l, int r, int p, int q) {
+      int many = heavy(l, r, p, q);
+      if (many < 0) {
+        return many;
+      }
+      int fail = 0;
+      for (int v : rangeSum(l, r, k).votes.keySet()) {
+        fail += often(v, l, r) * q > p * (r - l) ? 0 : 1;
+      }
+      return fail;
+    }
+
+    int least(int l, int r, int p, int q) {
+      if (!isRange(l, r) || r - l > 64 || !isShare(p, q)) {
+        return NONE;
+      }
+      List<int[]> due = heavyOf(row.subList(l, r), p, q);
+      for (int slots = 1; slots <= 6; slots++) {
+        Sum s = rangeSum(l, r, slots);
+        if (due.stream().allMatch(x -> s.votes.containsKey(x[0]))) {
+          return slots;
+        }
+      }
+      return -2;
+    }
+
+    static int majorityOf(List<Integer> some) {
+      List<int[]> list = heavyOf(some, 1, 2);
+      return list.isEmpty() ? NO_VALUE : list.get(0)[0];
+    }
+
+    int majority(int l, int r) {
+      Map<Integer, Integer> often = new HashMap<>();
+      for (int v : row.subList(l, r)) {
+        often.merge(v, 1, Integer::sum);
+      }
+      for (Map.Entry<Integer, Integer> e : often.entrySet()) {
+        if (2 * e.getValue() > r - l) {
+          return e.getKey();
+        }
+      }
+      return NO_VALUE;
+    }
+
+    int both(int l, int r, int l2, int r2, int p, int q) {
+      if (!isRange(l, r) || !isRange(l2, r2) || !isShare(p, q)) {
+        return NONE;
+      }
+      if (!enough(p, q)) {
+        return -2;
+      }
+      for (int i = l; i < r; i++) {
+        if (l2 <= i && i < r2) {
+          return -3;
+        }
+      }
+      return heavyOf(two(l, r, l2, r2), p, q).size();
+    }
+
+    List<Integer> two(int l, int r, int l2, int r2) {
+      List<Integer> some = new ArrayList<>(row.subList(l, r));
+      some.addAll(row.subList(l2, r2));
+      return some;
+    }
+
+    int bothAt(int[] a) {
+      int many = both(a[1], a[2], a[3], a[4], a[5], a[6]);
+      if (a[7] < 0 || a[7] >= many) {
+        return NO_VALUE;
+      }
+      return heavyOf(two(a[1], a[2], a[3], a[4]), a[5], a[6]).get(a[7])[0];
+    }
+
+    int longest(int v, int p, int q, int what) {
+      if (!isValue(v) || !isShare(p, q) || what < 0 || what > 1) {
+        return NONE;
+      }
+      for (int length = row.size(); length > 0; length--) {
+        for (int l = 0; l + length <= row.size(); l++) {
+          if (often(v, l, l + length) * q > p * length) {
+            return what == 0 ? l : l + length;
+          }
+        }
+      }
+      return NONE;
+    }
+
+    int reach(int l) {
+      if (!isPlace(l)) {
+        return NONE;
+      }
+      int r = row.size();
+      while (majority(l, r) == NO_VALUE) {
+        r--;
+      }
+      return r;
+    }
+
+    int parted(int l, int r) {
+      int[] few = new int[r + 1];
+      for (int end = l + 1; end <= r; end++) {
+        few[end] = Integer.MAX_VALUE;
+        for (int start = l; start < end; start++) {
+          if (few[start] + 1 < few[end] && majority(start, end) != NO_VALUE) {
+            few[end] = few[start] + 1;
+          }
+        }
+      }
+      return few[r];
+    }
+
+    int cut(int l, int r) {
+      for (int m = l + 1; m < r; m++) {
+        int a = majority(l, m);
+        int b = majority(m, r);
+        if (a != NO_VALUE && b != NO_VALUE && a != b) {
+          return m;
+        }
+      }
+      return NONE;
+    }
+
+    int majorities() {
+      int many = 0;
+      for (int l = 0; l < row.size(); l++) {
+        for (int r = l + 1; r <= row.size(); r++) {
+          many += majority(l, r) == NO_VALUE ? 0 : 1;
+        }
+      }
+      return many;
+    }
+
+    int windows(int w, int p, int q, int what) {
+      if (what < 0 || what > 2) {
+        return NONE;
+      }
+      if (w < 1 || w > row.size() || !isShare(p, q)) {
+        return what == 1 ? NO_VALUE : NONE;
+      }
+      int some = 0;
+      TreeMap<Integer, Integer> in = new TreeMap<>();
+      for (int l = 0; l + w <= row.size(); l++) {
+        List<int[]> list = heavyOf(row.subList(l, l + w), p, q);
+        some += list.isEmpty() ? 0 : 1;
+        list.forEach(x -> in.merge(x[0], 1, Integer::sum));
+      }
+      if (what == 0) {
+        return some;
+      }
+      int most = in.values().stream().mapToInt(c -> c).max().orElse(0);
+      if (what == 2) {
+        return most;
+      }
+      return in.entrySet().stream().filter(e -> e.getValue() == most).mapToInt(Map.Entry::getKey).min()
+          .orElse(NO_VALUE);
+    }
+
+    int needs(int[] a) {
+      if (!isValue(a[1]) || !isRange(a[2], a[3]) || !isShare(a[4], a[5])) {
+        return NONE;
+      }
+      int length = a[3] - a[2];
+      int c = often(a[1], a[2], a[3]);
+      for (int more = 0; c + more <= length; more++) {
+        if ((c + more) * a[5] > a[4] * length) {
+          return more;
+        }
+      }
+      return -2;
+    }
+
+    int spares(int[] a) {
+      if (!isValue(a[1]) || !isRange(a[2], a[3]) || !isShare(a[4], a[5])) {
+        return NONE;
+      }
+      int c = often(a[1], a[2], a[3]);
+      int less = 0;
+      while ((c - less) * a[5] > a[4] * (a[3] - a[2])) {
+        less++;
+      }
+      return less;
+    }
+
+    int would(int place, int v, int l, int r) {
+      if (!isPlace(place) || !isValue(v) || !isRange(l, r)) {
+        return NO_VALUE;
+      }
+      List<Integer> changed = new ArrayList<>(row);
+      changed.set(place, v);
+      return majorityOf(changed.subList(l, r));
+    }
+
+    int swings(int l, int r, int v, int what) {
+      if (!isRange(l, r) || r - l > 40 || !isValue(v) || what < 0 || what > 1) {
+        return NONE;
+      }
+      int best = -1;
+      int where = NONE;
+      for (int i = l; i < r; i++) {
+        int own = row.set(i, v);
+        int total = numbers(nodeSum(0, row.size(), k));
+        row.set(i, own);
+        if (total > best) {
+          best = total;
+          where = i;
+        }
+      }
+      return what == 0 ? where : best;
+    }
+
+    int depth(int l, int r) {
+      int m = (l + r) / 2;
+      return r == l ? 0 : r - l == 1 ? 1 : 1 + Math.max(depth(l, m), depth(m, r));
+    }
+
+    int told(int what) {
+      switch (what) {
+        case 0: return row.size();
+        case 1: return k;
+        case 2: return nodes().size();
+        case 3: return (int) nodes().stream().filter(x -> majority(x[0], x[1]) != NO_VALUE).count();
+        case 4: return depth(0, row.size());
+        case 5: return row.isEmpty() ? 0 : nodeSum(0, row.size(), k).loss;
+        case 6: return nodes().stream().mapToInt(x -> nodeSum(x[0], x[1], k).loss).sum();
+        default: return NONE;
+      }
+    }
+  }
+}
