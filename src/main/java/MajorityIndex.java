@@ -81,14 +81,14 @@ public final class MajorityIndex {
         if (!row.hasPlace(place) || !isValue(value)) {
             return NONE;
         }
-        return overwrite(place, place + 1, value);
+        return overwrite(laidTree(), place, place + 1, value);
     }
 
     public int fill(int l, int r, int value) {
         if (!row.hasRange(l, r) || !isValue(value)) {
             return NONE;
         }
-        return overwrite(l, r, value);
+        return overwrite(laidTree(), l, r, value);
     }
 
     public int turn(int l, int r) {
@@ -344,7 +344,7 @@ public final class MajorityIndex {
         if (!isEnough(p, q)) {
             return NOT_ENOUGH;
         }
-        gatherHeavy(l, r, p, q);
+        gatherHeavy(laidTree(), l, r, p, q);
         return votes.size;
     }
 
@@ -355,7 +355,7 @@ public final class MajorityIndex {
         if (!isEnough(p, q)) {
             throw new NoSuchElementException();
         }
-        gatherHeavy(l, r, p, q);
+        gatherHeavy(laidTree(), l, r, p, q);
         if (i >= votes.size) {
             throw new NoSuchElementException();
         }
@@ -369,9 +369,10 @@ public final class MajorityIndex {
         if (!isEnough(p, q)) {
             return NOT_ENOUGH;
         }
-        laidTree().gather(votes, l, r);
+        Tree laid = laidTree();
+        laid.gather(votes, l, r);
         int before = votes.size;
-        gatherHeavy(l, r, p, q);
+        gatherHeavy(laid, l, r, p, q);
         return before - votes.size;
     }
 
@@ -405,23 +406,20 @@ public final class MajorityIndex {
     }
 
     public int both(int l, int r, int l2, int r2, int p, int q) {
-        if (!row.hasRange(l, r) || !row.hasRange(l2, r2) || !isShare(p, q)) {
-            return NONE;
+        int refused = refusalOfBoth(l, r, l2, r2, p, q);
+        if (refused != 0) {
+            return refused;
         }
-        if (!isEnough(p, q)) {
-            return NOT_ENOUGH;
-        }
-        if (l < r2 && l2 < r) {
-            return SHARED_PLACE;
-        }
-        gatherHeavyOfBoth(l, r, l2, r2, p, q);
+        gatherHeavyOfBoth(laidTree(), l, r, l2, r2, p, q);
         return votes.size;
     }
 
     public int bothAt(int l, int r, int l2, int r2, int p, int q, int i) {
-        int many = both(l, r, l2, r2, p, q);
-        // Below 0 are the answers that tell of no heavy ones: no i of 0 and more is below those.
-        return i >= 0 && i < many && i < votes.size ? votes.value[i] : NO_VALUE;
+        if (i < 0 || refusalOfBoth(l, r, l2, r2, p, q) != 0) {
+            return NO_VALUE;
+        }
+        gatherHeavyOfBoth(laidTree(), l, r, l2, r2, p, q);
+        return i < votes.size ? votes.value[i] : NO_VALUE;
     }
 
     // ---- how far
@@ -560,10 +558,11 @@ public final class MajorityIndex {
         if (!row.hasRange(l, r) || r - l > MOST_FOR_SWINGS || !isValue(value) || what < 0 || what > 1) {
             return NONE;
         }
+        Tree laid = laidTree();
         int bestPlace = NONE;
         int bestTotal = NONE;
         for (int i = l; i < r; i++) {
-            int total = rootTotalWith(i, value);
+            int total = rootTotalWith(laid, i, value);
             if (total > bestTotal) {
                 bestPlace = i;
                 bestTotal = total;
@@ -617,31 +616,42 @@ public final class MajorityIndex {
 
     private Tree laidTree() {
         if (treeIsOld) {
-            tree.lay(slotsNow);
+            tree.layRanges();
+            tree.slotsHere = slotsNow;
+            tree.renew(0, row.length);
             treeIsOld = false;
         }
         return tree;
     }
 
-    private int overwrite(int l, int r, int value) {
-        // The tree must be laid ahead of the change, or there is nothing to compare with.
-        Tree laid = laidTree();
+    /** The tree comes laid for the row as it is ahead of the change: that is what is compared with. */
+    private int overwrite(Tree laid, int l, int r, int value) {
         for (int i = l; i < r; i++) {
             row.cell[i] = value;
         }
         return laid.renew(l, r);
     }
 
-    private void gatherHeavy(int l, int r, int p, int q) {
-        laidTree().gather(votes, l, r);
+    private void gatherHeavy(Tree laid, int l, int r, int p, int q) {
+        laid.gather(votes, l, r);
         for (int i = 0; i < votes.size; i++) {
             votes.number[i] = row.oftenIn(votes.value[i], l, r);
         }
         votes.keepHeavy(r - l, p, q);
     }
 
-    private void gatherHeavyOfBoth(int l, int r, int l2, int r2, int p, int q) {
-        Tree laid = laidTree();
+    /** What both() answers if it tells no heavy ones; 0: it tells them. */
+    private int refusalOfBoth(int l, int r, int l2, int r2, int p, int q) {
+        if (!row.hasRange(l, r) || !row.hasRange(l2, r2) || !isShare(p, q)) {
+            return NONE;
+        }
+        if (!isEnough(p, q)) {
+            return NOT_ENOUGH;
+        }
+        return l < r2 && l2 < r ? SHARED_PLACE : 0;
+    }
+
+    private void gatherHeavyOfBoth(Tree laid, int l, int r, int l2, int r2, int p, int q) {
         laid.gather(votes, Math.min(l, l2), l < l2 ? r : r2);
         laid.gather(otherVotes, Math.max(l, l2), l < l2 ? r2 : r);
         votes.join(otherVotes);
@@ -733,8 +743,7 @@ public final class MajorityIndex {
         return best;
     }
 
-    private int rootTotalWith(int place, int value) {
-        Tree laid = laidTree();
+    private int rootTotalWith(Tree laid, int place, int value) {
         int own = row.cell[place];
         row.cell[place] = value;
         laid.renew(place, place + 1);
@@ -952,8 +961,7 @@ public final class MajorityIndex {
             this.row = row;
         }
 
-        void lay(int slots) {
-            slotsHere = slots;
+        void layRanges() {
             nodes = row.length == 0 ? 0 : 2 * row.length - 1;
             from[0] = 0;
             to[0] = row.length;
@@ -962,7 +970,6 @@ public final class MajorityIndex {
                     layBelow(id);
                 }
             }
-            renew(0, row.length);
         }
 
         private void layBelow(int id) {

@@ -408,6 +408,13 @@ public final class MajorityIndexPromises {
     due(28, "candidate(0, 8, 0, 0)", y.candidate(0, 8, 0, 0), 2);
     due(28, "heavyAt(0, 8, 1, 3, 0, 0)", y.heavyAt(0, 8, 1, 3, 0, 0), 1);
     due(28, "heavyAt(0, 8, 1, 3, 1, 0)", y.heavyAt(0, 8, 1, 3, 1, 0), 2);
+    // The votes are 2:1 and 3:1; 3, told behind 2, is there twice and alone heavy.
+    MajorityIndex z = of(2, 3, 4, 1, 3);
+    due(28, "candidate(0, 5, 0, 0)", z.candidate(0, 5, 0, 0), 2);
+    due(28, "heavyAt(0, 5, 1, 3, 0, 0)", z.heavyAt(0, 5, 1, 3, 0, 0), 3);
+    due(28, "heavyAt(0, 5, 1, 3, 0, 1)", z.heavyAt(0, 5, 1, 3, 0, 1), 2);
+    dueThrow(28, "heavyAt(0, 5, 1, 3, 1, 0)", () -> z.heavyAt(0, 5, 1, 3, 1, 0));
+    due(29, "failed(0, 5, 1, 3)", z.failed(0, 5, 1, 3), 1);
     due(29, "failed(0, 8, 1, 2)", x.failed(0, 8, 1, 2), 2);
     due(29, "failed(0, 8, 1, 3)", x.failed(0, 8, 1, 3), 0);
     due(29, "failed(0, 8, 3, 8)", x.failed(0, 8, 3, 8), 1);
@@ -648,6 +655,12 @@ public final class MajorityIndexPromises {
     due(40, "windows(1, 1, 2, 1)", x.windows(1, 1, 2, 1), NO_VALUE);
     due(9, "insert(1, 1)", x.insert(1, 1), -1);
     due(9, "insert(0, 1)", x.insert(0, 1), 1);
+    MajorityIndex y = eight();
+    due(45, "told(5)", y.told(5), 1);
+    y.end(0);
+    for (int what = 2; what <= 6; what++) {
+      due(45, "told(" + what + ")", y.told(what), 0);
+    }
   }
 
   /** least, would and swings try things out: the tree must be as it was behind them. */
