@@ -445,7 +445,7 @@ public final class MajorityIndex {
             return NONE;
         }
         tally.learn(row);
-        tally.clear(row.length);
+        tally.clear();
         int farthest = NONE;
         for (int i = l; i < row.length; i++) {
             tally.take(i);
@@ -465,7 +465,7 @@ public final class MajorityIndex {
         Arrays.fill(fewest, r - l);
         fewest[l] = 0;
         for (int start = l; start < r; start++) {
-            tally.clear(row.length);
+            tally.clear();
             for (int i = start; i < r; i++) {
                 tally.take(i);
                 if (tally.hasMajority()) {
@@ -494,7 +494,7 @@ public final class MajorityIndex {
         tally.learn(row);
         int many = 0;
         for (int l = 0; l < row.length; l++) {
-            tally.clear(row.length);
+            tally.clear();
             for (int i = l; i < row.length; i++) {
                 tally.take(i);
                 if (tally.hasMajority()) {
@@ -704,7 +704,7 @@ public final class MajorityIndex {
 
     private int slideWindow(int w, int p, int q) {
         tally.learn(row);
-        tally.clear(row.length);
+        tally.clear();
         Arrays.fill(wins, 0);
         int some = 0;
         for (int i = 0; i < row.length; i++) {
@@ -1139,10 +1139,11 @@ public final class MajorityIndex {
             return many;
         }
 
+        /** Of two halves the greater one is never the less deep one. */
         int deepest() {
-            int deep = 0;
-            for (int place = 0; place < row.length; place++) {
-                deep = Math.max(deep, depthAt(place));
+            int deep = nodes == 0 ? 0 : 1;
+            for (int places = row.length; places > 1; places -= places / 2) {
+                deep++;
             }
             return deep;
         }
@@ -1169,19 +1170,19 @@ public final class MajorityIndex {
             }
         }
 
-        void clear(int length) {
-            for (int i = 0; i < length && i < MOST_PLACES; i++) {
-                often[i] = 0;
-            }
+        void clear() {
+            Arrays.fill(often, 0);
             taken = 0;
             most = 0;
         }
 
         void take(int place) {
-            int is = kind[place];
-            often[is]++;
+            int now = often[kind[place]] + 1;
+            often[kind[place]] = now;
             taken++;
-            most = Math.max(most, often[is]);
+            if (now > most) {
+                most = now;
+            }
         }
 
         /** Leaves most as it was: the windows, which alone drop places, look at each value. */
@@ -1191,7 +1192,7 @@ public final class MajorityIndex {
         }
 
         boolean hasMajority() {
-            return isHeavy(most, taken, 1, 2);
+            return 2 * most > taken;
         }
     }
 }
