@@ -23,7 +23,7 @@ public final class MajorityIndexAgainstModel {
     Model model = new Model();
     int feeds = random.nextInt(45);
     for (int call = 0; call < CALLS && wrong < 20; call++) {
-      int[] a = call < feeds ? caller.feed() : caller.any(model.row.size());
+      int[] a = call < feeds ? caller.feed() : call == feeds ? caller.slots() : caller.any(model.row.size());
       long want = Calls.modelAnswer(model, a);
       long got = Calls.realAnswer(real, a);
       if (want != got) {
@@ -72,6 +72,10 @@ public final class MajorityIndexAgainstModel {
 
     int[] feed() {
       return new int[] {0, value() << 16 | value() & 0xffff, value() << 16 | value() & 0xffff};
+    }
+
+    int[] slots() {
+      return new int[] {2, 1 + random.nextInt(6)};
     }
 
     int wild() {

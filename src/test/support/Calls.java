@@ -14,13 +14,6 @@ final class Calls {
     "bothAt", "longest", "reach", "parted", "cut", "majorities", "windows", "needs", "spares", "would", "swings",
     "told"};
 
-  /** How many arguments each of them has. */
-  static final int[] ARGUMENTS = {2, 1, 1, 2, 3, 2, 2, 2, 1,
-    1, 3, 2, 0, 2, 4, 2, 2, 3, 1, 2, 4,
-    3, 4, 3, 2, 4, 6, 4, 4, 2, 3, 6,
-    7, 4, 1, 2, 2, 0, 4, 5, 5, 4, 4,
-    1};
-
   /** The first that changes nothing. */
   static final int FIRST_QUESTION = 9;
 
