@@ -365,8 +365,13 @@ public final class MajorityIndexTerms {
     partsAre(x, 0, 7, 0, 4, 6, 7);
     partsAre(x, 1, 7, 1, 2, 4, 6, 7);
     partsAre(x, 3, 5, 3, 4, 5);
-    MajorityIndex long1 = Sentences.full();
-    partsAre(long1, 1, 159, 1, 2, 5, 10, 20, 40, 80, 120, 140, 150, 155, 157, 158, 159);
+    partsAre(Sentences.full(), 1, 159, 1, 2, 5, 10, 20, 40, 80, 120, 140, 150, 155, 157, 158, 159);
+    s.sentence("Terms", "of its first PART and the second, TOGETHER, of that and the third, and so on");
+    // 1:1 and 2:2, with these 3:3 4:1: 3:2 2:1, loss 1; from the right on it would be 3:1, loss 2.
+    MajorityIndex three = Sentences.of(1, 1, 2, 2, 3, 3, 3, 4);
+    s.due("summary(1, 8, 0)", three.summary(1, 8, 0), 2);
+    s.due("summary(1, 8, 1)", three.summary(1, 8, 1), 3);
+    s.due("summary(1, 8, 2)", three.summary(1, 8, 2), 1);
     s.sentence("Terms", "(So it may be another one than that of a like row of VALUES elsewhere.)");
     // 1 2, 3 leave 3; 1, 2 3 leave 1.
     MajorityIndex y = Sentences.by(1, 1, 2, 3, 0, 0, 1, 2, 3);
